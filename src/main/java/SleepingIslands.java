@@ -680,7 +680,6 @@ public final class SleepingIslands {
             if (!isPlace(island)) {
                 return;
             }
-            left[island] = 0;
             states[island] = AWAKE;
             if (isIn(keepers, island)) {
                 values[island] = kept[island];

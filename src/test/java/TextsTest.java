@@ -12,6 +12,7 @@ public final class TextsTest {
         textsWithFault();
         theNinthIsland();
         faultIsNoChange();
+        faultLeavesNothing();
         is.end();
     }
 
@@ -159,6 +160,23 @@ public final class TextsTest {
         is.same("19: fault", before, x);
         is.due("19: count(13)", x.count(13), 2);
         is.due("19: a number that is not there is no fault", faultOf("1,1>7"), -6);
+    }
+
+    /** What was looked through ahead of a wipe leaves nothing in the chip that is read behind it. */
+    private static void faultLeavesNothing() {
+        SleepingIslands x = new SleepingIslands();
+        Checks.put(x, "ik9,20>1>2;ik9,20>0>2;ik9,20>0>1");
+        x.fault();
+        x.wipe();
+        Checks.put(x, "1,1;1,1");
+        is.due("19: read()", x.read(), 2);
+        int[] due = {0, 0, 0, 0, 0, 1, 1, 0, 0, 0, 0, -6, 0};
+        for (int island = 0; island < 2; island++) {
+            for (int what = 0; what < 13; what++) {
+                is.due("19: of(" + island + ", " + what + ")", x.of(island, what), due[what]);
+            }
+        }
+        is.due("19: of(2, 0)", x.of(2, 0), -1);
     }
 
     private static int faultOf(String text) {

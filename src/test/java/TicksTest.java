@@ -13,6 +13,7 @@ public final class TicksTest {
         keepersAndLosses();
         riseInTicks();
         askingOrdersSleepers();
+        manyAsk();
         askingSeesTheStatesOfItsStep();
         queueAndCurrent();
         aloneAboveCurrent();
@@ -232,6 +233,24 @@ public final class TicksTest {
         is.due("9: asked for in the tick in which it falls asleep: of(1, 0)", x.of(1, 0), 3);
         is.due("9: of(3, 11): behind 1, ahead of 4 there was room", x.of(3, 11), 1);
         is.due("9: of(4, 0)", x.of(4, 0), 4);
+    }
+
+    private static void manyAsk() {
+        SleepingIslands x = Checks.chip("i1,1>3>4;i1,1>5;i1,1;i1,1;i1,1;i1,1>2");
+        for (int island = 2; island < 6; island++) {
+            x.sleep(island);
+        }
+        x.pass(1);
+        x.set(1, 1);
+        x.set(0, 1);
+        x.pass(1);
+        is.due("9: count(4): 3 is asked for by 0, and rises", x.count(4), 8);
+        is.due("9: waiting(0): 4 is asked for by 0", x.waiting(0), 4);
+        is.due("9: waiting(1): 5 is asked for by 1", x.waiting(1), 5);
+        is.due("9: count(2): 2 is read by 5 alone, which is not awake", x.count(2), 4);
+        x.pass(3);
+        is.due("9: count(1): all that are read by the awake", x.count(1), 59);
+        is.due("9: count(4): now 2", x.count(4), 4);
     }
 
     /** An island that wakes in a tick asks in this tick, one that was ordered does not, and one that falls does not. */

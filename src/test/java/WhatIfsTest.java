@@ -46,6 +46,12 @@ public final class WhatIfsTest {
         x.pass(6);
         is.due("13: ifPassed(6, 3)", sum, x.of(0, 1) + x.of(1, 1) + x.of(2, 1) + x.of(3, 1));
         is.due("13: of(1, 1)", x.of(1, 1), 38);
+        SleepingIslands eight = Checks.chip("1,1;1,1;1,1;1,1;1,1;1,1;1,1;1,1");
+        for (int island = 0; island < 8; island++) {
+            eight.value(island, 1 << island);
+        }
+        is.due("13: ifPassed(1, 3) of eight", eight.ifPassed(1, 3), 255);
+        is.due("13: ifPassed(1, 1) of eight", eight.ifPassed(1, 1), 255);
     }
 
     private static void ifPassedCountsTheseTicksAlone() {
@@ -269,6 +275,8 @@ public final class WhatIfsTest {
         SleepingIslands x = Checks.chip("1,1>1;1,1>0");
         is.due("16: quiet(1)", x.quiet(1), 3);
         is.due("16: quiet(2): each one alone would be heard", x.quiet(2), 0);
+        SleepingIslands eight = Checks.chip("1,1;1,1>0;1,1;1,1;1,1;1,1;1,1;1,1");
+        is.due("16: quiet(50) of eight", eight.quiet(50), 254);
         SleepingIslands y = Checks.chip("1,1;9,1>0");
         Checks.sleepFully(y, 1);
         is.due("16: quiet(50): the reader sleeps", y.quiet(50), 1);
