@@ -48,7 +48,7 @@ public final class ModelTest {
 
     private void go(int run) {
         this.run = "run " + run;
-        while (calls < CALLS - 110) {
+        while (calls < CALLS - 150) {
             if (run % 3 == 0 && calls == 0 || below(60) == 0) {
                 putChip();
             }

@@ -41,6 +41,18 @@ public final class UndoTest {
 
     /** Every change is undone by one undo, to the same looks (but for the pad, which undo leaves). */
     private static void eachChangeIsUndone() {
+        for (int change = 0; change < 9; change++) {
+            SleepingIslands x = oneThatWaits();
+            String before = Checks.look(x);
+            int many = x.count(13);
+            is.due("20: change " + change, make(x, change) >= 0 ? 1 : 0, 1);
+            is.due("20: count(13) behind change " + change, x.count(13), many + 1);
+            is.due("20: undo() of change " + change, x.undo(), many);
+            is.same("20: undo of change " + change, before, x);
+        }
+    }
+
+    private static SleepingIslands oneThatWaits() {
         SleepingIslands x = Checks.chip("k2,3>1;i1,5;4,20>0>1");
         x.save(1);
         x.value(2, 7);
@@ -49,14 +61,7 @@ public final class UndoTest {
         Checks.sleepFully(x, 1);
         x.undo();
         x.undo();
-        for (int change = 0; change < 9; change++) {
-            String before = Checks.look(x);
-            int many = x.count(13);
-            is.due("20: change " + change, make(x, change) >= 0 ? 1 : 0, 1);
-            is.due("20: count(13) behind change " + change, x.count(13), many + 1);
-            is.due("20: undo() of change " + change, x.undo(), many);
-            is.same("20: undo of change " + change, before, x);
-        }
+        return x;
     }
 
     private static int make(SleepingIslands x, int change) {
